@@ -851,7 +851,7 @@ public final class ClickStreet {
 
         /** Whether one click that tells of an unknown cell would make it known. */
         boolean canLearn(int where) {
-            return held(where) == UNKNOWN && Street.isCell(where) && yes[where] < MOST_KEPT;
+            return Street.isCell(where) && yes[where] == no[where] && yes[where] < MOST_KEPT;
         }
 
         int countHeld(int how) {
@@ -1598,6 +1598,9 @@ public final class ClickStreet {
         }
 
         private void goOn(int walker) {
+            if (!hasWalker(walker)) {
+                return;
+            }
             Walker who = walkers[walker];
             for (int i = 0; i < who.speed(); i++) {
                 int next = Street.cellFrom(who.cell, who.side, 1);
@@ -1736,6 +1739,9 @@ public final class ClickStreet {
         }
 
         private void noteLearned(World world, int walker, int place, int from) {
+            if (place < 0 || place >= FEW || !world.hasWalker(walker)) {
+                return;
+            }
             for (int i = 0; i < 3; i++) {
                 learned[3 * place + i] = 0;
             }
@@ -1795,6 +1801,9 @@ public final class ClickStreet {
 
         /** Whether a walker in a cell would hear a pole that stood in another one. */
         private static boolean wouldHear(World world, int walker, int from, int post) {
+            if (!world.hasWalker(walker)) {
+                return false;
+            }
             Walker who = world.walkers[walker];
             for (int side = 0; side < 8; side++) {
                 for (int yards = 1; yards <= who.reach(); yards++) {

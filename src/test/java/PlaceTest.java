@@ -40,6 +40,10 @@ public final class PlaceTest {
         Due.is("-1", s.spots(0, 0, 1, 0), Due.KIND);
         Due.sheet(s, 0, 32, 11, 13, 11);
         Due.is("two alike", s.spots(0, 0, 1, 0), Due.KIND);
+        Due.sheet(s, 0, 32, 11, 11);
+        Due.is("two alike, side by side", s.spots(0, 0, 1, 0), Due.KIND);
+        Due.sheet(s, 0, 32, 10, 13, 11, 11);
+        Due.is("two alike, the last", s.spots(0, 0, 1, 0), Due.KIND);
         Due.sheet(s, 0, 8, 0, 2, 11);
         Due.is("one is FREE", s.spots(0, 0, 1, 1), 4);
         Due.is("two are not", s.spots(0, 0, 2, 1), Due.STATE);
@@ -71,6 +75,13 @@ public final class PlaceTest {
         Due.is("another walker is heard", s.spots(0, 0, 1, 0), 12);
         Due.is("no REACH", s.spots(1, 0, 1, 0), 0);
         Due.is("no REACH: the least bits", s.spots(1, 0, 2, 1), 3);
+
+        s = new ClickStreet();
+        s.walker(1, 100, 0);
+        s.thing(0, 0);
+        s.thing(0, 63);
+        Due.sheet(s, 0, 16, Due.cell(0, 3), Due.cell(12, 3));
+        Due.is("CELLS 0 and 63", s.spots(0, 0, 2, 0), 6);
     }
 
     /** A street with things, walkers and laws at random, and walker 0 in it. */

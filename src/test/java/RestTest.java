@@ -9,6 +9,7 @@ public final class RestTest {
         numbersOfBits();
         moves();
         images();
+        freshAfterRestore();
         tells();
         checks();
         counts();
@@ -321,6 +322,39 @@ public final class RestTest {
         Due.is("the third", s.image(), 3);
     }
 
+    /** What comes behind a restore() is as new, whatever bore its number ahead. */
+    private static void freshAfterRestore() {
+        ClickStreet s = new ClickStreet();
+        s.image();
+        s.walker(1, 20, 2);
+        s.thing(3, 23);
+        s.moves(0, 5, 20);
+        s.habit(0, 9, 99, 1);
+        s.goes(0, true);
+        s.tenths(6);
+        Due.is("made some CLICKS", s.walkerIs(0, 8), 6);
+        Due.is("held some FREE", s.head(0, 22, 1) > 0 ? 1 : 0, 1);
+        Due.text(s, 2, "0");
+        s.tenths(20);
+        Due.is("made a BUMP", s.walkerIs(0, 7) > 0 ? 1 : 0, 1);
+        s.restore();
+        Due.is("no walkers", s.walkerIs(0, 0), Due.BEYOND);
+        Due.is("no things", s.thingIs(0, 0), Due.BEYOND);
+        s.walker(1, 20, 3);
+        int[] due = {1, 20, 3, 5, 60, 0, 0, 0, 0};
+        for (int what = 0; what < due.length; what++) {
+            Due.is("walkerIs " + what, s.walkerIs(0, what), due[what]);
+        }
+        for (int cell = 0; cell < 192; cell++) {
+            Due.is("YES", s.head(0, cell, 0), 0);
+            Due.is("NO", s.head(0, cell, 1), 0);
+        }
+        s.thing(4, 25);
+        Due.is("KIND", s.thingIs(0, 0), 4);
+        Due.is("SIDE", s.thingIs(0, 2), 0);
+        Due.is("STEP", s.thingIs(0, 3), 0);
+    }
+
     private static void tells() {
         ClickStreet s = new ClickStreet();
         for (int i = 1; i <= 24; i++) {
@@ -372,6 +406,19 @@ public final class RestTest {
         Due.is("no THING", s.thingIs(0, 1), Due.cell(6, 4));
         s.tenths(3);
         Due.is("as it was checked", s.walkerIs(1, 1), Due.cell(3, 4));
+        // what is loud and what is too weak is in it
+        s = new ClickStreet();
+        s.walker(1, 0, 2);
+        s.walker(0, 40, 2);
+        s.thing(4, 3);
+        s.thing(1, 8);
+        s.kind(0, 0, 0);
+        s.habit(0, 5, 60, 1);
+        s.goes(0, true);
+        Due.text(s, 2, "[f=3?2:0]");
+        s.tell(0);
+        s.tell(16);
+        Due.is("a BUS is heard", s.check(0), 0);
         // TENTHS above 9999
         s = new ClickStreet();
         s.walker(0, 190, 6);

@@ -6,6 +6,7 @@ public final class SoundTest {
         echoes();
         earsMasksAndNoise();
         textsOfUses();
+        ears();
         clicks();
         heads();
         mostKept();
@@ -133,6 +134,39 @@ public final class SoundTest {
         echoIs(s, 560, 0, 3, 18, 499, 499, 499, 0);
         Due.text(s, 1, "0-1");
         Due.is("below 0 is HEARD", s.echo(0, 560, 2, 5), 1);
+
+        // a LOUDNESS of 1 does not touch the PITCH
+        s = new ClickStreet();
+        s.walker(6, 80, 0);
+        s.thing(0, 83);
+        s.kind(0, 1, 5);
+        Due.text(s, 0, "9");
+        Due.is("PITCH 5, SHARP 5, LOUDNESS 1", s.echo(0, 501, 2, 5), 1);
+        Due.is("PITCH 6, EARS 5, LOUDNESS 1", s.echo(0, 601, 2, 5), 0);
+        Due.is("PITCH 4, LOUDNESS 99", s.echo(0, 499, 2, 2), 0);
+    }
+
+    /** What each ear gets of an ECHO from each SIDE, for each that is FACED. */
+    private static void ears() {
+        ClickStreet s = new ClickStreet();
+        s.walker(1, Due.cell(5, 5), 0);
+        int[] cells = {
+            Due.cell(5, 3), Due.cell(7, 3), Due.cell(7, 5), Due.cell(7, 7),
+            Due.cell(5, 7), Due.cell(3, 7), Due.cell(3, 5), Due.cell(3, 3)
+        };
+        for (int cell : cells) {
+            s.thing(0, cell);
+        }
+        Due.text(s, 0, "41");
+        for (int facing = 0; facing < 8; facing++) {
+            s.face(0, facing);
+            for (int round = 0; round < 8; round++) {
+                int side = (facing + round) % 8;
+                boolean isRight = round == 1 || round == 2 || round == 3;
+                boolean isLeft = round == 5 || round == 6 || round == 7;
+                echoIs(s, 560, side, 2, side % 2 == 1 ? 16 : 12, 41, isRight ? 20 : 41, isLeft ? 20 : 41, 1);
+            }
+        }
     }
 
     private static void clicks() {
@@ -191,15 +225,26 @@ public final class SoundTest {
         Due.is("still one other", s.heads(0, 3), 1);
         s.walker(0, Due.cell(5, 7), 0);
         Due.is("another walker is FULL", s.heads(0, 3), 2);
+        s.thing(0, 0);
+        s.face(0, 7);
+        s.tenths(1);
+        s.walker(1, Due.cell(3, 3), 7);
+        s.air(1, 0);
+        s.click(3);
+        Due.is("CELL 0 is FULL", s.head(3, 0, 2), 2);
+        int others = s.heads(3, 3);
+        s.away(s.at(0));
+        Due.is("CELL 0 is other", s.heads(3, 3), others + 1);
+        s.air(1, 9);
         Due.is("what 4", s.heads(0, 4), Due.BEYOND);
         Due.is("what -1", s.heads(0, -1), Due.BEYOND);
-        Due.is("walker 3", s.heads(3, 0), Due.BEYOND);
+        Due.is("walker 4", s.heads(4, 0), Due.BEYOND);
         Due.is("walker -1", s.heads(-1, 0), Due.BEYOND);
         Due.is("head what 3", s.head(0, 0, 3), Due.BEYOND);
         Due.is("head what -1", s.head(0, 0, -1), Due.BEYOND);
         Due.is("head CELL 192", s.head(0, 192, 0), Due.BEYOND);
         Due.is("head CELL -1", s.head(0, -1, 0), Due.BEYOND);
-        Due.is("head walker 3", s.head(3, 0, 0), Due.BEYOND);
+        Due.is("head walker 4", s.head(4, 0, 0), Due.BEYOND);
     }
 
     private static void mostKept() {
@@ -286,6 +331,18 @@ public final class SoundTest {
         Due.text(s, 1, "1");
         Due.is("masked", s.least(0, 0, 1, 0), Due.NONE);
         Due.is("YARDS 12", s.least(0, 0, 12, 1), 1);
+        s.air(1, 7);
+        Due.is("6 is masked by 7", s.least(0, 0, 1, 0), Due.NONE);
+        Due.is("6 is masked by 7", s.least(0, 0, 1, 1), Due.NONE);
+        Due.is("12 is not", s.least(0, 0, 2, 0), 5);
+        s.kind(2, 1, 9);
+        Due.is("PITCH 9", s.least(0, 2, 2, 0), 9);
+        Due.text(s, 1, "s>188");
+        Due.is("LOUDNESS 99 with PITCH 9", s.least(0, 2, 2, 1), 99);
+        Due.is("PITCH 9 with LOUDNESS 99", s.least(0, 2, 2, 0), 9);
+        Due.text(s, 1, "s>189");
+        Due.is("none with PITCH 9", s.least(0, 2, 2, 1), Due.NONE);
+        Due.is("none with LOUDNESS 99", s.least(0, 2, 2, 0), Due.NONE);
         Due.is("YARDS 13", s.least(0, 0, 13, 1), Due.NONE);
         Due.is("YARDS 15", s.least(0, 0, 15, 1), Due.NONE);
         Due.is("YARDS 16", s.least(0, 0, 16, 1), Due.BEYOND);
@@ -309,6 +366,8 @@ public final class SoundTest {
         Due.is("8 - 2 y > 5: at 1 alone, which is masked", s.farthest(0, 0, 508), Due.NONE);
         s.air(1, 5);
         Due.is("not masked", s.farthest(0, 0, 508), 1);
+        s.air(1, 7);
+        Due.is("6 is masked by 7", s.farthest(0, 0, 508), Due.NONE);
         Due.text(s, 0, "[y=4?99:[y=9?3:9]]");
         Due.text(s, 1, "s>10");
         Due.is("4 alone", s.farthest(0, 0, 560), 4);

@@ -143,6 +143,11 @@ public final class StreetTest {
         s.away(1);
         Due.is("moves: KIND ahead of STATE", s.moves(1, 0, 1), Due.KIND);
         Due.is("the CELL is FREE again", s.thing(1, 77), 2);
+        Due.is("in CELL 0", s.thing(3, 0), 3);
+        Due.is("CELL 0 is not away", s.moves(3, 5, 1), 1);
+        s.tenths(1);
+        Due.is("5 becomes 1", s.thingIs(3, 2), 1);
+        Due.is("away from CELL 0", s.away(3), 0);
     }
 
     private static void kinds() {

@@ -156,6 +156,22 @@ public final class WalkTest {
         s.tenths(1);
         Due.is("BUMPS 1", s.walkerIs(0, 2), 2);
 
+        // aslant: full at 2 in sides 7 and 3
+        s = new ClickStreet();
+        s.walker(1, Due.cell(8, 6), 1);
+        s.thing(0, Due.cell(6, 4));
+        s.thing(0, Due.cell(10, 8));
+        s.thing(0, Due.cell(5, 6));
+        s.thing(0, Due.cell(11, 6));
+        s.click(0);
+        s.goes(0, true);
+        Due.text(s, 2, "[(f=0)*(l=2)*(r=2)?2:0]");
+        s.tenths(1);
+        Due.is("facing 1", s.walkerIs(0, 2), 3);
+        Due.text(s, 2, "[(f=2)*(l=0)*(r=0)?1:0]");
+        s.tenths(1);
+        Due.is("facing 3", s.walkerIs(0, 2), 4);
+
         // the nearest CELL is told at 9 YARDS at most
         for (int yards = 8; yards <= 11; yards++) {
             s = new ClickStreet();
@@ -349,6 +365,17 @@ public final class WalkTest {
         s.walker(1, 0, 2);
         s.thing(0, 1);
         Due.is("masked at 1, nothing known", s.safe(0), 0);
+        s.away(0);
+        s.thing(0, 4);
+        s.click(0);
+        s.away(1);
+        s.thing(0, 1);
+        Due.is("masked at 1, 3 HELD FREE", s.safe(0), 2);
+        s.air(1, 0);
+        Due.is("an echo at 1", s.safe(0), 0);
+        s = new ClickStreet();
+        s.walker(1, 0, 2);
+        s.thing(0, 1);
         s.away(0);
         Due.is("no echo, nothing known", s.safe(0), 0);
         s.thing(0, 12);
