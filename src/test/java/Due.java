@@ -9,6 +9,8 @@ final class Due {
 
     private static int asked = 0;
     private static int wrong = 0;
+    private static String part = "";
+    private static int askedBefore = -1;
 
     private Due() {
     }
@@ -17,8 +19,23 @@ final class Due {
         asked++;
         if (got != want) {
             wrong++;
-            System.out.println(call + " answered " + got + ", due is " + want);
+            System.out.println(part + call + " answered " + got + ", due is " + want);
         }
+    }
+
+    /** What must be so, but is no answer of the program. */
+    static void stands(String what, boolean is) {
+        if (!is) {
+            wrong++;
+            System.out.println(part + what + ": it is not so");
+        }
+    }
+
+    /** A part of a test, that asks at least one answer. */
+    static void begin(String name) {
+        stands("it asks something", asked != askedBefore);
+        part = name.isEmpty() ? "" : name + ": ";
+        askedBefore = asked;
     }
 
     /** Feeds a text to the tape. */
@@ -50,6 +67,7 @@ final class Due {
     }
 
     static void end(String test) {
+        begin("");
         System.out.println(test + ": " + asked + " answers asked, " + wrong + " not as due");
         if (wrong != 0) {
             System.exit(1);
