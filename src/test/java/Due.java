@@ -68,6 +68,7 @@ final class Due {
 
     static void end(String test) {
         begin("");
+        askedBefore = -1;
         System.out.println(test + ": " + asked + " answers asked, " + wrong + " not as due");
         if (wrong != 0) {
             System.exit(1);

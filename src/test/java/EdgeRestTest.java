@@ -401,6 +401,28 @@ public final class EdgeRestTest {
         Due.is("CLICKS", s.walkerIs(0, 8), 0);
         Due.is("HEAD", s.heads(0, 0), 192);
         Due.is("NOISE", s.air(0, 0), 5);
+        s = Edge.of("Promise 38", all, "a HEAD that comes behind it is new in CELLS 0 and 191, too");
+        s.image();
+        s.walker(1, 3, 6);
+        s.walker(1, 188, 2);
+        s.thing(0, 0);
+        s.thing(0, 191);
+        s.click(0);
+        s.click(1);
+        s.thing(0, 1);
+        s.thing(0, 190);
+        s.air(1, 0);
+        s.click(0);
+        s.click(1);
+        s.restore();
+        s.walker(1, 3, 6);
+        s.walker(1, 188, 2);
+        for (int cell = 0; cell < 192; cell++) {
+            for (int walker = 0; walker < 2; walker++) {
+                Due.is("YES", s.head(walker, cell, 0), 0);
+                Due.is("NO", s.head(walker, cell, 1), 0);
+            }
+        }
         s = Edge.of("Promise 38", "NONE: there is none.", "at first");
         Due.is("restore", s.restore(), Due.NONE);
         Due.is("again", s.restore(), Due.NONE);

@@ -327,6 +327,15 @@ public final class EdgeWalkTest {
         wayIs(s, 102, 6, 85, 86, 102);
         wayIs(s, 100, 6, 85, 101, 100);
         wayIs(s, 68, 6, 85, 69, 68);
+        s = Edge.of("Promise 27", WAY, "no step aslant, though one to 19 would seem to cost no more");
+        s.walker(1, 2, 0);
+        s.air(1, 0);
+        int[] full = {0, 16, 17, 34, 50};
+        for (int cell : full) {
+            s.thing(0, cell);
+        }
+        s.click(0);
+        wayIs(s, 16, 24, 2, 18, 17, 16);
         s = Edge.of("Promise 27", WAY, "from corner to corner: 26 steps");
         s.walker(0, 0, 0);
         Due.is("what it costs", s.way(0, 191, -1), 78);

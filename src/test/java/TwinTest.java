@@ -16,8 +16,8 @@ public final class TwinTest {
             "check", "count", "told", "feed", "raw"},
         {"tenths", "tenths", "text", "goes", "face", "habit", "way", "safe", "check", "tell", "tell", "heads", "away"},
         {"echo", "echo", "alike", "alike", "least", "farthest", "kind", "air", "text", "click", "safe"},
-        {"sheet", "put", "put", "cells", "cells", "spots", "spots", "posts", "posts", "posts", "move", "lays", "click",
-            "habit"},
+        {"sheet", "put", "put", "cells", "cells", "spots", "spots", "posts", "some posts", "some posts", "move", "lays",
+            "click", "habit"},
         {"lesson", "learn", "learn", "voice", "voice", "trace", "habit", "image", "restore", "told"}
     };
     private static final int[] WILD = {
@@ -122,11 +122,15 @@ public final class TwinTest {
 
     private void run() {
         int calls = 512;
+        boolean isDense = random.nextInt(3) == 0;
         for (int i = random.nextInt(30) + 3; i > 0; i--) {
-            ask("thing", num(0, 4), num(0, 191));
+            ask("thing", num(0, 4), isDense ? num(0, 6) + 16 * num(0, 5) : num(0, 191));
         }
         for (int i = random.nextInt(6) + 1; i > 0; i--) {
-            ask("walker", num(0, 7), num(0, 191), num(0, 7));
+            ask("walker", num(0, 7), isDense ? num(0, 6) + 16 * num(0, 5) : num(0, 191), num(0, 7));
+        }
+        if (isDense) {
+            ask("air", 1, 0);
         }
         for (int i = 0; i < second.view().count(2); i++) {
             ask("goes", i, random.nextInt(3) > 0);
@@ -190,6 +194,7 @@ public final class TwinTest {
             case "sheet": ask(act, num(0, 3), num(0, 4) / 4 == 1 ? 0 : 8 << random.nextInt(3), num(0, 12)); break;
             case "put": ask(act, num(0, 3), num(0, 12), random.nextBoolean() ? num(0, 6) : cell()); break;
             case "cells": askCells(); break;
+            case "some posts": askPosts(); break;
             case "move": ask(act, num(0, 3), num(0, 5), num(0, 3), num(0, 5), num(0, 5)); break;
             case "tell": askTell(); break;
             default: Due.is("no such act: " + act, 1, 0); break;
@@ -230,6 +235,31 @@ public final class TwinTest {
             ask("put", sheet, i, cell);
             int next = cell + random.nextInt(5) * new int[] {1, -1, 16, -16, 17, -17, 15, -15}[random.nextInt(8)];
             cell = next >= 0 && next < 192 && random.nextInt(5) > 0 ? next : cell();
+        }
+    }
+
+    /** POSTS for some CELLS, each in a SIDE of one of the POSTS. */
+    private void askPosts() {
+        int[] posts = new int[random.nextInt(8) + 1];
+        int[] cells = new int[random.nextInt(6) + 1];
+        ask("sheet", 0, 16, posts.length);
+        for (int i = 0; i < posts.length; i++) {
+            posts[i] = cell();
+            ask("put", 0, i, posts[i]);
+        }
+        ask("sheet", 1, 32, cells.length);
+        for (int j = 0; j < cells.length; j++) {
+            int post = posts[random.nextInt(posts.length)];
+            int cell = post;
+            for (int i = 0; i < 20 && cell == post; i++) {
+                int yards = 1 + random.nextInt(4);
+                int next = post + yards * new int[] {1, -1, 16, -16, 17, -17, 15, -15}[random.nextInt(8)];
+                cell = next >= 0 && next < 192 ? next : post;
+            }
+            ask("put", 1, j, cell);
+        }
+        for (int what = 0; what < 2; what++) {
+            ask("posts", walker(), 0, 1, what);
         }
     }
 
