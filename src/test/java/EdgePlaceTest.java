@@ -121,8 +121,9 @@ public final class EdgePlaceTest {
             s.click(0);
         }
         Due.is("as much", s.head(0, 98, 2), 0);
-        Due.sheet(s, 0, 16, 114);
-        spotsAre(s, 0, 1, 0, 1);
+        Due.is("YES", s.head(0, 98, 0), 99);
+        Due.sheet(s, 0, 16, 146);
+        spotsAre(s, 0, 1, 2, 1);
         s = Edge.of("Promise 25", SPOTS, "by one of these alone: FREE by one, FULL by the other");
         s.walker(1, 0, 0);
         s.walker(4, 100, 0);
@@ -144,6 +145,33 @@ public final class EdgePlaceTest {
         s.thing(0, 100);
         Due.sheet(s, 0, 16, 97);
         spotsAre(s, 0, 1, 0, 1);
+        int[] round = {-16, -15, 1, 17, 16, 15, -1, -17};
+        for (int side = 0; side < 8; side++) {
+            s = Edge.of("Promise 25", SPOTS, "an ECHO from SIDE " + side);
+            s.walker(1, 0, 0);
+            s.thing(0, 85 + 3 * round[side]);
+            Due.sheet(s, 0, 16, 175, 85);
+            spotsAre(s, 0, 1, 3, 2);
+        }
+        for (int cell = 0; cell < 192; cell += 16) {
+            s = Edge.of("Promise 25", SPOTS, "CELLS from " + cell + " on");
+            s.walker(1, 190 - cell, 0);
+            s.thing(0, cell);
+            s.thing(0, cell + 15);
+            Due.sheet(s, 0, 16, cell + 4, cell + 8);
+            spotsAre(s, 0, 1, 15, 1);
+        }
+        s = Edge.of("Promise 25", SPOTS, "again, as it is now");
+        s.walker(1, 0, 0);
+        s.thing(0, 100);
+        s.thing(0, 60);
+        s.thing(0, 190);
+        Due.sheet(s, 0, 16, 97, 57, 187);
+        spotsAre(s, 0, 3, 9, 7);
+        s.away(0);
+        s.away(1);
+        s.away(2);
+        spotsAre(s, 0, 3, 0, 7);
         s = Edge.of("Promise 25", SPOTS, "nothing changes");
         s.walker(1, 0, 0);
         s.thing(0, 100);
@@ -369,6 +397,13 @@ public final class EdgePlaceTest {
         Due.sheet(s, 0, 16, 88, 85);
         Due.sheet(s, 1, 16, 24, 89);
         postsAre(s, 0, 2, 3);
+        s = Edge.of("Promise 31", WHERE, "again, as it is now");
+        s.walker(1, 0, 0);
+        Due.sheet(s, 0, 16, 50, 100);
+        Due.sheet(s, 1, 16, 53);
+        postsAre(s, 0, 1, 1);
+        s.thing(0, 51);
+        postsAre(s, 0, Due.STATE, Due.STATE);
         s = Edge.of("Promise 31", WHERE, "a THING behind the POLE");
         s.walker(1, 0, 0);
         s.thing(0, 49);

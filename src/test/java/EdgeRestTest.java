@@ -65,6 +65,14 @@ public final class EdgeRestTest {
         Due.sheet(s, 0, 8, 1, 1, 1);
         s.sheet(0, 8, 3);
         Due.is("lays", s.lays(0, 0), 0);
+        for (int bits = 8; bits <= 32; bits *= 2) {
+            s = Edge.of("Promise 34", has, "all 0, not another number: " + bits + " bits");
+            s.walker(1, 7, 0);
+            s.sheet(0, bits, 1);
+            Due.is("CELL 0", s.spots(0, 0, 1, 1), 1);
+            s.thing(0, 0);
+            Due.is("it isn't FREE", s.spots(0, 0, 1, 1), Due.STATE);
+        }
         s = Edge.of("Promise 34", has, "all 0, longer than ahead");
         Due.sheet(s, 0, 8, 1, 1, 1);
         s.sheet(0, 8, 1);
@@ -306,6 +314,7 @@ public final class EdgeRestTest {
         s.thing(0, 7);
         s.restore();
         Due.is("THINGS", s.count(1), 2);
+        imageOfAll();
         s = Edge.of("Promise 37", IMAGE, "what comes behind it does not touch it");
         s.walker(1, 80, 2);
         s.thing(0, 83);
@@ -329,6 +338,69 @@ public final class EdgeRestTest {
         Due.is("THE TAPE", s.text(2), 1);
         Due.is("waits", s.check(0), 0);
         Due.is("PITCH", s.walkerIs(0, 3), 5);
+    }
+
+    /** Each number that can be asked for, as it was, whatever came behind it. */
+    private static void imageOfAll() {
+        ClickStreet s = Edge.of("Promise 37", IMAGE, "each number of a WALKER, a THING, a KIND, the air");
+        s.walker(7, 80, 2);
+        s.thing(4, 82);
+        s.thing(3, 100);
+        s.moves(0, 1, 3);
+        s.moves(1, 6, 2);
+        s.away(1);
+        s.habit(0, 3, 33, 1);
+        s.goes(0, true);
+        s.tenths(1);
+        s.click(0);
+        for (int i = 0; i < 3; i++) {
+            s.air(i, 1);
+        }
+        for (int kind = 0; kind < 5; kind++) {
+            s.kind(kind, 0, 10 + kind);
+            s.kind(kind, 1, 1 + kind);
+        }
+        int[] walker = new int[12];
+        for (int what = 0; what < 12; what++) {
+            walker[what] = s.walkerIs(0, what);
+        }
+        s.image();
+        ClickStreet bare = new ClickStreet();
+        bare.image();
+        Due.is("another object's IMAGE", bare.restore(), 0);
+        for (int i = 0; i < 2; i++) {
+            s.habit(0, 9, 99, 9);
+            s.face(0, 7);
+            s.tenths(5);
+            s.goes(0, false);
+            s.click(0);
+            s.moves(0, 5, 7);
+            s.thing(0, 7);
+            for (int what = 0; what < 3; what++) {
+                s.air(what, 0);
+            }
+            for (int kind = 0; kind < 5; kind++) {
+                s.kind(kind, 0, 99);
+                s.kind(kind, 1, 9);
+            }
+            Due.is("restore", s.restore(), 1);
+            for (int what = 0; what < 12; what++) {
+                Due.is("walkerIs " + what, s.walkerIs(0, what), walker[what]);
+            }
+            int[] bus = {4, 82, 1, 3};
+            int[] man = {3, -1, 6, 2};
+            for (int what = 0; what < 4; what++) {
+                Due.is("the BUS " + what, s.thingIs(0, what), bus[what]);
+                Due.is("the MAN " + what, s.thingIs(1, what), man[what]);
+            }
+            for (int what = 0; what < 3; what++) {
+                Due.is("air " + what, s.air(what, 0), 1);
+            }
+            for (int kind = 0; kind < 5; kind++) {
+                Due.is("LOUD", s.kind(kind, 0, 99), 10 + kind);
+                Due.is("SHARP", s.kind(kind, 1, 9), 1 + kind);
+            }
+        }
     }
 
     private static void imageLeaves() {
@@ -394,11 +466,15 @@ public final class EdgeRestTest {
         s.thing(0, 83);
         s.air(0, 0);
         s.click(0);
+        Due.text(s, 2, "0");
+        s.tenths(3);
+        Due.is("BUMPS", s.count(7), 1);
         s.restore();
         s.walker(1, 80, 0);
-        Due.is("PITCH", s.walkerIs(0, 3), 5);
-        Due.is("GOES", s.walkerIs(0, 6), 0);
-        Due.is("CLICKS", s.walkerIs(0, 8), 0);
+        int[] fresh = {1, 80, 0, 5, 60, 0, 0, 0, 0, 12, 1, 9};
+        for (int what = 0; what < 12; what++) {
+            Due.is("walkerIs " + what, s.walkerIs(0, what), fresh[what]);
+        }
         Due.is("HEAD", s.heads(0, 0), 192);
         Due.is("NOISE", s.air(0, 0), 5);
         s = Edge.of("Promise 38", all, "a HEAD that comes behind it is new in CELLS 0 and 191, too");

@@ -365,6 +365,11 @@ public final class EdgeSoundTest {
         s.air(1, 12);
         Due.is("12 by 12", s.least(0, 2, 2, 0), Due.NONE);
         Due.is("18 by 12", s.least(0, 2, 3, 0), 1);
+        s = Edge.of("Promise 23", least, "in SIDE 0: 6 thousandths for a YARD, by LOUDNESS");
+        s.walker(1, 80, 1);
+        s.air(1, 12);
+        Due.is("12 by 12", s.least(0, 2, 2, 1), Due.NONE);
+        Due.is("18 by 12", s.least(0, 2, 3, 1), 12);
         s = Edge.of("Promise 23", least, "what is in the street does not matter");
         s.walker(1, 16, 0);
         s.thing(0, 17);
@@ -424,6 +429,12 @@ public final class EdgeSoundTest {
         s.walker(1, 80, 0);
         Due.text(s, 0, "[y=7?9:0]");
         Due.is("7 alone", s.farthest(0, 0, 560), 7);
+        s = Edge.of("Promise 24", farthest, "in SIDE 0: 6 thousandths for a YARD");
+        s.walker(1, 80, 1);
+        s.air(1, 71);
+        Due.is("72 by 71", s.farthest(0, 0, 560), 12);
+        s.air(1, 72);
+        Due.is("72 by 72", s.farthest(0, 0, 560), Due.NONE);
         s = Edge.of("Promise 24", farthest, "of that KIND");
         s.walker(1, 80, 0);
         s.kind(1, 0, 10);

@@ -167,6 +167,14 @@ public final class EdgeStreetTest {
         s.tenths(2);
         Due.is("away", s.away(0), 22);
         Due.is("at", s.at(22), -1);
+        s = Edge.of("Promise 5", away, "it goes on no more, nor does it turn");
+        s.thing(3, 20);
+        s.moves(0, 2, 1);
+        s.away(0);
+        s.tenths(3);
+        Due.is("CELL", s.thingIs(0, 1), -1);
+        Due.is("SIDE", s.thingIs(0, 2), 2);
+        Due.is("STEP", s.thingIs(0, 3), 1);
         int[] bad = {-1, 1, 40, Integer.MAX_VALUE, Integer.MIN_VALUE};
         for (int thing : bad) {
             s = Edge.of("Promise 5", "BEYOND.", "THING " + thing);
@@ -224,6 +232,17 @@ public final class EdgeStreetTest {
         }
         Due.is("0", s.at(0), 100);
         Due.is("7", s.at(7), 107);
+        s = Edge.of("Promise 7", at, "THING 1, WALKER 1 where they went");
+        s.thing(3, 100);
+        s.thing(3, 120);
+        s.walker(0, 0, 2);
+        s.walker(0, 20, 2);
+        s.moves(1, 2, 1);
+        s.goes(1, true);
+        s.tenths(1);
+        Due.is("THING 1", s.at(121), 1);
+        Due.is("WALKER 1", s.at(21), 101);
+        Due.is("WALKER 0", s.at(0), 100);
         int[] bad = {-1, 192, Integer.MAX_VALUE, Integer.MIN_VALUE};
         for (int cell : bad) {
             s = Edge.of("Promise 7", "BEYOND.", "CELL " + cell);

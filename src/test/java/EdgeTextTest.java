@@ -214,6 +214,8 @@ public final class EdgeTextTest {
         is(wrap, "64*64*32*32*32*32+7", 7);
         is(wrap, "7/0", 0);
         is(wrap, "7%0", 0);
+        is(wrap, "7%0+7", 7);
+        is(wrap, "7/0+7", 7);
         is(wrap, "0/0+7", 7);
         is(wrap, "9/(3-3)+7", 7);
         is(wrap, "[1/0?1:7]", 7);

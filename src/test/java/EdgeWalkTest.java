@@ -336,6 +336,25 @@ public final class EdgeWalkTest {
         }
         s.click(0);
         wayIs(s, 16, 24, 2, 18, 17, 16);
+        s = Edge.of("Promise 27", WAY, "to CELL 0, over CELL 0");
+        s.walker(0, 17, 0);
+        wayIs(s, 0, 6, 17, 1, 0);
+        s.walker(1, 1, 0);
+        s.air(1, 0);
+        s.thing(0, 2);
+        s.click(1);
+        Due.is("17 and 2 HELD FULL", s.way(1, 16, -1), 6);
+        Due.is("behind 1", s.way(1, 16, 1), 0);
+        Due.is("behind 2", s.way(1, 16, 2), 16);
+        s = Edge.of("Promise 27", WAY, "to CELL 191, over CELL 191");
+        s.walker(0, 174, 0);
+        s.walker(1, 190, 0);
+        s.air(1, 0);
+        s.thing(0, 189);
+        s.click(1);
+        Due.is("174 and 189 HELD FULL", s.way(1, 175, -1), 6);
+        Due.is("behind 1", s.way(1, 175, 1), 191);
+        Due.is("behind 2", s.way(1, 175, 2), 175);
         s = Edge.of("Promise 27", WAY, "from corner to corner: 26 steps");
         s.walker(0, 0, 0);
         Due.is("what it costs", s.way(0, 191, -1), 78);
@@ -467,6 +486,14 @@ public final class EdgeWalkTest {
         s.click(0);
         s.thing(0, 2);
         Due.is("11 HELD FREE, an ECHO at 2", s.safe(0), 1);
+        s = Edge.of("Promise 28", heard, "at 1 YARD, ahead of what the HEAD holds");
+        s.walker(1, 0, 2);
+        s.thing(0, 12);
+        s.click(0);
+        s.thing(0, 1);
+        Due.is("masked: 11 HELD FREE", s.safe(0), 4);
+        s.air(1, 5);
+        Due.is("HEARD: none is free", s.safe(0), 0);
         s = Edge.of("Promise 28", heard, "one that is no CLICKING one, too");
         s.walker(3, 0, 2);
         s.thing(0, 4);
@@ -543,32 +570,43 @@ public final class EdgeWalkTest {
         s.click(0);
         s.habit(0, 5, 1, 0);
         Due.is("11 CELLS", s.safe(0), 4);
-        s = Edge.of("Promise 28", head, "15 to the edge of the street");
-        s.walker(1, 80, 2);
-        s.walker(1, 95, 2);
-        // from (0, 5): CELLS 81 .. 91; the rest from the south, one by one
-        s.thing(0, 92);
+        fifteen(head);
+    }
+
+    /** All 15 CELLS of a row: (15, 5) is told from the south, the others from within the row. */
+    private static void fifteen(String head) {
+        ClickStreet s = Edge.of("Promise 28", head, "14, and 15 to the edge of the street");
+        s.walker(1, 95, 6);
+        s.thing(0, 83);
         s.click(0);
         s.away(0);
-        Due.is("11", s.safe(0), 4);
+        Due.text(s, 2, "0");
         s.goes(0, true);
-        s.goes(1, true);
-        s.face(1, 4);
-        s.tenths(3);
-        s.thing(0, 94);
+        s.tenths(10);
+        s.thing(0, 80);
+        s.click(0);
         s.click(0);
         s.away(1);
-        s.tenths(1);
-        s.thing(0, 95);
-        s.click(0);
+        s.tenths(5);
+        Due.is("at the edge", s.walkerIs(0, 1), 80);
+        s.face(0, 2);
+        Due.is("14, then UNKNOWN", s.safe(0), 4);
+        Due.is("95", s.head(0, 95, 2), 0);
+        s.face(0, 4);
+        s.tenths(2);
+        s.face(0, 2);
+        s.tenths(15);
+        s.face(0, 0);
+        s.thing(0, 63);
         s.click(0);
         s.away(2);
+        Due.is("95", s.head(0, 95, 2), 1);
         s.face(0, 6);
-        s.tenths(4);
+        s.tenths(15);
+        s.face(0, 0);
+        s.tenths(2);
         s.face(0, 2);
-        Due.is("it is back", s.walkerIs(0, 1), 80);
-        Due.is("14, and 95 HELD FULL", s.safe(0), 4);
-        Due.is("94", s.head(0, 94, 2), 1);
-        Due.is("95", s.head(0, 95, 2), 2);
+        Due.is("back", s.walkerIs(0, 1), 80);
+        Due.is("15", s.safe(0), 5);
     }
 }
