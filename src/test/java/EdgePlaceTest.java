@@ -161,6 +161,25 @@ public final class EdgePlaceTest {
             Due.sheet(s, 0, 16, cell + 4, cell + 8);
             spotsAre(s, 0, 1, 15, 1);
         }
+        s = Edge.of("Promise 25", SPOTS, "CELLS 0, 63, 64, 127, 128, 191 count each");
+        s.walker(1, 89, 0);
+        int[] ends = {0, 63, 64, 127, 128, 191};
+        for (int cell : ends) {
+            s.thing(0, cell);
+        }
+        Due.sheet(s, 0, 16, 32, 95, 160, 159);
+        // 32: 16, 0, 48, 64; 95: 79, 63, 111, 127; 160: 144, 128; 159: 175, 191, 143, 127; in rows nothing stands
+        spotsAre(s, 0, 1, 4, 1);
+        spotsAre(s, 0, 2, 8, 3);
+        spotsAre(s, 0, 3, 11, 11);
+        s = Edge.of("Promise 25", SPOTS, "what is behind its last number does not count");
+        s.walker(1, 190, 0);
+        s.thing(0, 4);
+        s.thing(0, 100);
+        Due.sheet(s, 0, 16, 97, 0, 0, 0);
+        Due.sheet(s, 0, 16, 97);
+        spotsAre(s, 0, 1, 3, 1);
+        Due.is("no second", s.spots(0, 0, 2, 0), Due.STATE);
         s = Edge.of("Promise 25", SPOTS, "again, as it is now");
         s.walker(1, 0, 0);
         s.thing(0, 100);

@@ -470,6 +470,8 @@ public final class EdgeRestTest {
         s.tenths(3);
         Due.is("BUMPS", s.count(7), 1);
         s.restore();
+        Due.is("no BUMPS of any", s.count(7), 0);
+        Due.is("no CLICKS of any", s.count(8), 0);
         s.walker(1, 80, 0);
         int[] fresh = {1, 80, 0, 5, 60, 0, 0, 0, 0, 12, 1, 9};
         for (int what = 0; what < 12; what++) {
@@ -606,6 +608,23 @@ public final class EdgeRestTest {
         Due.is("its SIDE", s.thingIs(0, 2), 6);
         Due.is("at", s.at(80), 100);
         Due.is("at", s.at(90), 0);
+        s = Edge.of("Promise 40", CHECK, "KINDS, TEXTS and the air are as they are");
+        s.walker(1, 80, 2);
+        s.thing(0, 83);
+        s.kind(0, 1, 6);
+        s.thing(4, 85);
+        s.away(0);
+        s.habit(0, 5, 60, 1);
+        s.goes(0, true);
+        Due.text(s, 2, "[f=5?1:0]");
+        s.tell(80);
+        s.tell(97);
+        Due.is("the BUS is HEARD at 5: it FACES south-east, and goes", s.check(0), 0);
+        Due.text(s, 2, "[f=5?3:0]");
+        s.tell(80);
+        s.tell(64);
+        s.tell(48);
+        Due.is("it FACES north, and goes", s.check(0), 0);
         s = Edge.of("Promise 40", CHECK, "an IMAGE stays");
         s.walker(0, 80, 2);
         s.goes(0, true);

@@ -453,6 +453,14 @@ public final class EdgeTermsTest {
         s.thing(0, 88);
         Due.is("5", s.echo(0, 560, 2, 5), 1);
         Due.is("6", s.echo(0, 660, 2, 5), 0);
+        s = Edge.of("Term 3", heard, "PITCH as EARS, and above, with LOUDNESS 1 and 99");
+        s.walker(6, 85, 0);
+        s.thing(0, 88);
+        Due.text(s, 0, "9");
+        Due.is("501", s.echo(0, 501, 2, 5), 1);
+        Due.is("599", s.echo(0, 599, 2, 5), 1);
+        Due.is("601", s.echo(0, 601, 2, 5), 0);
+        Due.is("699", s.echo(0, 699, 2, 5), 0);
         s = Edge.of("Term 3", heard, "PITCH is that of the CLICK");
         s.walker(6, 85, 0);
         s.thing(0, 88);
