@@ -7,8 +7,8 @@ import java.util.function.IntSupplier;
 
 /**
  * The document read a second time, by other means than those of the class: walkers are Java's own subclasses,
- * sheets are Java's own arrays, refusals and a division by 0 are Java's own exceptions, clicks that are only
- * thought of are made in a copy. It is slow, and it makes objects as it likes.
+ * sheets are Java's own arrays, refusals are thrown, clicks that are only thought of are made in a copy. It is
+ * slow, and it makes objects as it likes.
  */
 final class SecondStreet {
     private static final int BEYOND = 1;
@@ -166,6 +166,7 @@ final class SecondStreet {
 
         int tells(int x) {
             begun.add(13);
+            need(n != 3, PARTED);
             return x / (n - 3);
         }
     }
@@ -743,11 +744,8 @@ final class SecondStreet {
         return act(() -> {
             Walker who = someWalker(walker);
             need(in(kind, 0, 7), BEYOND);
-            try {
-                return KINDS.get(kind).cast(who).reach();
-            } catch (ClassCastException unlike) {
-                throw new Refused(KIND);
-            }
+            need(KINDS.get(kind).isInstance(who), KIND);
+            return who.reach();
         });
     }
 
@@ -1194,12 +1192,7 @@ final class SecondStreet {
             Walker who = someWalker(walker);
             need(in(act, 0, 3), BEYOND);
             who.begun = new ArrayList<>();
-            int said;
-            try {
-                said = act == 0 ? who.sounds(x) : act == 1 ? who.hears(x) : act == 2 ? who.knows(x) : who.tells(x);
-            } catch (ArithmeticException parted) {
-                throw new Refused(PARTED);
-            }
+            int said = act == 0 ? who.sounds(x) : act == 1 ? who.hears(x) : act == 2 ? who.knows(x) : who.tells(x);
             trace = who.begun.subList(0, Math.min(30, who.begun.size()));
             return said;
         });
@@ -1242,13 +1235,10 @@ final class SecondStreet {
         return act(() -> {
             need(in(sheet, 0, 3) && in(other, 0, 3), BEYOND);
             need(sheets[sheet] != null && sheets[other] != null, NONE);
-            try {
-                System.arraycopy(sheets[sheet], i, sheets[other], j, n);
-            } catch (ArrayStoreException unlike) {
-                throw new Refused(KIND);
-            } catch (IndexOutOfBoundsException outside) {
-                throw new Refused(BEYOND);
-            }
+            need(sheets[sheet].getClass() == sheets[other].getClass(), KIND);
+            long room = Math.min(numbersOf(sheet).size() - (long) i, numbersOf(other).size() - (long) j);
+            need(i >= 0 && j >= 0 && n >= 0 && n <= room, BEYOND);
+            System.arraycopy(sheets[sheet], i, sheets[other], j, n);
             return n;
         });
     }
